@@ -15,6 +15,8 @@ public final class HeatStadium {
     private static final int ROUNDS = 2;
     private static final int LANES = 8;
     private static final int MOST_HEATS = 3;
+    private static final int LOTS = 41;
+    private static final int NO_ARRIVAL = -1;
     private static final int MOST_BARS = 10;
     private static final int MOST_FAILURES = 3;
     private static final int THROWS = 6;
@@ -605,11 +607,6 @@ public final class HeatStadium {
             int told = bests[athlete];
             return told > 0 && !withdrawn[athlete] && worthOf(told) >= worthOf(standard);
         }
-
-        /** Those alike in lot can't be: 31 and 41 have no common divisor, and there are 30 athletes. */
-        private int lotOf(int athlete) {
-            return (31 * athlete + 17 * number + 7) % 41;
-        }
     }
 
     private static final class Round {
@@ -783,6 +780,8 @@ public final class HeatStadium {
         private final int[] inHeat = new int[MOST_HEATS];
         /** A bit for each nation that is in the heat. */
         private final int[] nationsInHeat = new int[MOST_HEATS];
+        /** What the lesser of is ahead; NO_ARRIVAL for who has no place in the round 0. */
+        private final int[] arrivals = new int[MOST_ATHLETES];
         /** 1 for a first of a heat, 2 for a second, 3 for the others. */
         private final int[] tiers = new int[MOST_ATHLETES];
         private final int[] finalists = new int[LANES];
@@ -835,7 +834,7 @@ public final class HeatStadium {
                 if (inHeat[heat] >= LANES) {
                     continue;
                 }
-                if ((nationsInHeat[heat] & 1 << nation) == 0) {
+                if ((nationsInHeat[heat] & (1 << nation)) == 0) {
                     return turn + on;
                 }
                 if (withRoom < 0) {
@@ -855,38 +854,39 @@ public final class HeatStadium {
 
         private void chooseFinalists(Event race, FieldNow field) {
             for (int i = 0; i < field.size; i++) {
-                tiers[field.members[i]] = tierOf(race, field, field.members[i]);
+                int athlete = field.members[i];
+                arrivals[athlete] = race.heatMarks.counts(athlete) ? arrivalOf(race, athlete) : NO_ARRIVAL;
             }
             for (int i = 0; i < field.size; i++) {
-                if (race.heatMarks.counts(field.members[i])) {
-                    admit(race, field.members[i]);
+                int athlete = field.members[i];
+                if (arrivals[athlete] != NO_ARRIVAL) {
+                    tiers[athlete] = tierOf(field, athlete);
+                    admit(athlete);
                 }
             }
         }
 
-        private int tierOf(Event race, FieldNow field, int athlete) {
+        /** Times first, then lots; the lots of 30 athletes all differ, as 31 and 41 have no common divisor. */
+        private static int arrivalOf(Event race, int athlete) {
+            int lot = (31 * athlete + 17 * race.number + 7) % LOTS;
+            return race.heatMarks.times[athlete] * LOTS + lot;
+        }
+
+        private int tierOf(FieldNow field, int athlete) {
             int tier = 1;
             for (int i = 0; i < field.size && tier < 3; i++) {
                 int other = field.members[i];
-                if (heats[other] == heats[athlete] && race.heatMarks.counts(other)
-                        && isFaster(race, other, athlete)) {
+                if (heats[other] == heats[athlete] && arrivals[other] != NO_ARRIVAL
+                        && arrivals[other] < arrivals[athlete]) {
                     tier++;
                 }
             }
             return tier;
         }
 
-        private static boolean isFaster(Event race, int athlete, int other) {
-            int ahead = race.heatMarks.times[athlete] - race.heatMarks.times[other];
-            if (ahead == 0) {
-                ahead = race.lotOf(athlete) - race.lotOf(other);
-            }
-            return ahead == 0 ? athlete < other : ahead < 0;
-        }
-
-        private void admit(Event race, int athlete) {
+        private void admit(int athlete) {
             int at = finalSize;
-            while (at > 0 && cameOutAhead(race, athlete, finalists[at - 1])) {
+            while (at > 0 && cameOutAhead(athlete, finalists[at - 1])) {
                 at--;
             }
             if (at >= LANES) {
@@ -901,11 +901,11 @@ public final class HeatStadium {
             finalists[at] = athlete;
         }
 
-        private boolean cameOutAhead(Event race, int athlete, int other) {
+        private boolean cameOutAhead(int athlete, int other) {
             if (tiers[athlete] != tiers[other]) {
                 return tiers[athlete] < tiers[other];
             }
-            return isFaster(race, athlete, other);
+            return arrivals[athlete] < arrivals[other];
         }
 
         /** From 0; -1 for who is in no heat. */
@@ -939,7 +939,7 @@ public final class HeatStadium {
             int taken = 0;
             for (int i = 0; i < finalSize; i++) {
                 int place = placeInFinal(finalists[i]);
-                if (place < 0 || (taken & 1 << LANE_ORDER[place]) != 0) {
+                if (place < 0 || (taken & (1 << LANE_ORDER[place])) != 0) {
                     return false;
                 }
                 taken |= 1 << LANE_ORDER[place];

@@ -9,6 +9,7 @@ public final class JumpsTest {
         threeInARow();
         ranks();
         countback();
+        fullField();
         CHECK.finish();
     }
 
@@ -32,6 +33,9 @@ public final class JumpsTest {
         }
         CHECK.state("eleven", () -> x.bar(0, 101));
         CHECK.argument("eleven, and out of range", () -> x.bar(0, 100));
+        CHECK.asks("x at the tenth", () -> x.jump(0, 0, 'x'), 1);
+        CHECK.asks("o at the tenth", () -> x.jump(0, 0, 'o'), 0);
+        CHECK.asks("result of the tenth", () -> x.resultOf(0, 0), 100);
         HeatStadium top = Games.ofKind('j', 1);
         CHECK.asks("height 999", () -> top.bar(0, 999), 1);
         CHECK.argument("nothing above", () -> top.bar(0, 999));
@@ -131,5 +135,16 @@ public final class JumpsTest {
         x.bar(0, 130);
         Games.jumps(x, 5, "xxo");
         CHECK.due("heights first", Games.ranks(x, 0, 6), "2 6 5 2 2 1");
+    }
+
+    private static void fullField() {
+        HeatStadium x = Games.ofKind('j', 30);
+        x.bar(0, 100);
+        for (int i = 0; i < 30; i++) {
+            Games.jumps(x, i, i < 20 ? "xo" : "o");
+        }
+        CHECK.asks("the best of 24", () -> x.rankOf(0, 20), 1);
+        CHECK.asks("the others of 24", () -> x.rankOf(0, 0), 5);
+        CHECK.none("not in the field", () -> x.rankOf(0, 24));
     }
 }

@@ -6,6 +6,7 @@ public final class RacesTest {
         heatsByTurns();
         nationsKeptApart();
         fullHeats();
+        fullField();
         heatsNow();
         wrongHeats();
         lanes();
@@ -49,6 +50,17 @@ public final class RacesTest {
     private static void fullHeats() {
         CHECK.due("heat 0 is full after 12",
                 Games.heats(Games.race(0, 1, 1, 2, 3, 3, 4, 5, 5, 6, 7, 7, 0, 2, 1), 15), "010010010010111");
+    }
+
+    private static void fullField() {
+        HeatStadium x = Games.ofKind('r', 30);
+        CHECK.due("heats of 24", Games.heats(x, 24), "012210012210012210012210");
+        CHECK.none("not in the field", () -> x.heatOf(0, 24));
+        for (int i = 0; i < 30; i++) {
+            x.time(0, 0, i, 100 + (i + 6) % 30, false, 0);
+        }
+        CHECK.due("finalists of 24", Games.finalists(x, 0), "0 1 2 3 4 5 6 7");
+        CHECK.due("lanes of a heat of 8", Games.lanes(x, 0, 0, 5, 6, 11, 12, 17, 18, 23), "45367812");
     }
 
     private static void heatsNow() {
