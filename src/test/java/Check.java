@@ -3,6 +3,7 @@ import java.util.function.Supplier;
 /** Counts the answers that are not as due; each test class makes one and ends with its finish(). */
 final class Check {
     private final String name;
+    private String sentence = "";
     private int asked;
     private int wrong;
 
@@ -10,11 +11,22 @@ final class Check {
         this.name = name;
     }
 
+    /** The sentence of the document's section "Terms" that the answers after this hold. */
+    void terms(String held) {
+        sentence = "Terms, \"" + held + "\"";
+    }
+
+    /** The sentence of a promise that the answers after this hold. */
+    void promise(int number, String held) {
+        sentence = "Promise " + number + ", \"" + held + "\"";
+    }
+
+    /** Compared as texts, which tell each int, long, boolean and double from any other. */
     void due(String call, Object answer, Object due) {
         asked++;
-        if (!answer.equals(due)) {
+        if (!String.valueOf(answer).equals(String.valueOf(due))) {
             wrong++;
-            System.out.println(name + ": " + call + " answered " + answer + ", due is " + due);
+            System.out.println(name + ": " + call + " answered " + answer + ", due is " + due + "   " + sentence);
         }
     }
 
@@ -27,33 +39,9 @@ final class Check {
         }
     }
 
-    void asks(String call, Supplier<Object> made, Object due) {
-        due(call, ask(made), due);
-    }
-
-    void index(String call, Supplier<Object> made) {
-        asks(call, made, "throws.IndexOutOfBoundsException");
-    }
-
-    void argument(String call, Supplier<Object> made) {
-        asks(call, made, "throws.IllegalArgumentException");
-    }
-
-    void state(String call, Supplier<Object> made) {
-        asks(call, made, "throws.IllegalStateException");
-    }
-
-    void kind(String call, Supplier<Object> made) {
-        asks(call, made, "throws.UnsupportedOperationException");
-    }
-
-    void none(String call, Supplier<Object> made) {
-        asks(call, made, "throws.NoSuchElementException");
-    }
-
     void finish() {
         System.out.println(name + ": " + asked + " answers, " + wrong + " wrong");
-        if (wrong != 0) {
+        if (wrong != 0 || asked == 0) {
             System.exit(1);
         }
     }

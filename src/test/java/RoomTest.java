@@ -45,7 +45,7 @@ public final class RoomTest {
 
     private static int ask(HeatStadium games) {
         int sum = 0;
-        for (int i = 0; i < 40; i++) {
+        for (int i = 0; i < 15; i++) {
             sum += games.heatOf(0, 0) + games.laneOf(0, 0, 0) + games.inFinal(0, 0) + games.rankOf(2, 0);
             sum += games.record(2) + games.holder(1) + games.sharers(0) + games.medals(0, 0);
             sum += games.inTable(0, true) + (int) games.points(0) + games.shareBits(0);
