@@ -139,9 +139,7 @@ public final class HeatStadium {
     public int laneOf(int event, int round, int athlete)
             throws IndexOutOfBoundsException, IllegalArgumentException,
                     UnsupportedOperationException, NoSuchElementException {
-        Event race = eventFor(event, athlete);
-        requireRange(round, 0, ROUNDS - 1);
-        requireKind(race, 'r');
+        Event race = raceFor(event, round, athlete);
         drawRace(race);
         int place = round == 0 ? draw.placeInHeat(fieldNow, athlete) : draw.placeInFinal(athlete);
         if (place < 0 || place >= LANES) {
@@ -189,18 +187,14 @@ public final class HeatStadium {
     public boolean putOut(int event, int round, int athlete)
             throws IndexOutOfBoundsException, IllegalArgumentException,
                     UnsupportedOperationException, IllegalStateException {
-        Event race = eventFor(event, athlete);
-        requireRange(round, 0, ROUNDS - 1);
-        requireKind(race, 'r');
+        Event race = raceFor(event, round, athlete);
         requireOpen(race);
         return race.marksOf(round).exclude(athlete, minute);
     }
 
     public boolean isOut(int event, int round, int athlete)
             throws IndexOutOfBoundsException, IllegalArgumentException, UnsupportedOperationException {
-        Event race = eventFor(event, athlete);
-        requireRange(round, 0, ROUNDS - 1);
-        requireKind(race, 'r');
+        Event race = raceFor(event, round, athlete);
         return race.marksOf(round).out[athlete];
     }
 
@@ -291,9 +285,7 @@ public final class HeatStadium {
     public int protest(int event, int round, int athlete)
             throws IndexOutOfBoundsException, IllegalArgumentException,
                     UnsupportedOperationException, IllegalStateException {
-        Event race = eventFor(event, athlete);
-        requireRange(round, 0, ROUNDS - 1);
-        requireKind(race, 'r');
+        Event race = raceFor(event, round, athlete);
         Round marks = race.marksOf(round);
         if (!marks.out[athlete]) {
             throw new IllegalStateException("the athlete is not out of this round");
@@ -425,6 +417,13 @@ public final class HeatStadium {
     private Event eventFor(int number, int athlete) {
         Event found = eventAt(number);
         requireAthlete(athlete);
+        return found;
+    }
+
+    private Event raceFor(int number, int round, int athlete) {
+        Event found = eventFor(number, athlete);
+        requireRange(round, 0, ROUNDS - 1);
+        requireKind(found, 'r');
         return found;
     }
 
