@@ -1,65 +1,46 @@
+import java.io.IOException;
 import java.lang.reflect.Constructor;
 import java.lang.reflect.Method;
 import java.lang.reflect.Modifier;
+import java.nio.file.Files;
+import java.nio.file.Path;
 import java.util.Arrays;
 import java.util.Set;
 import java.util.TreeSet;
+import java.util.regex.Matcher;
+import java.util.regex.Pattern;
 
-/** The public face: these members, declared so, and no other that is not private. */
+/** "The public face": the members that the document declares, declared so, and no other that is not private. */
 public final class FaceTest {
-    private static final String[] FACE = {
-        "int athlete(int) IllegalArgumentException IllegalStateException",
-        "int event(char,int,int,int) IllegalArgumentException IllegalStateException",
-        "int enter(int,int,int) IndexOutOfBoundsException IllegalArgumentException IllegalStateException",
-        "boolean withdraw(int,int,boolean) IndexOutOfBoundsException NoSuchElementException IllegalStateException",
-        "int field(int) IndexOutOfBoundsException",
-        "int inField(int,int) IndexOutOfBoundsException NoSuchElementException",
-        "int pass(int) IllegalArgumentException",
-        "int heatOf(int,int) IndexOutOfBoundsException UnsupportedOperationException NoSuchElementException",
-        "int laneOf(int,int,int) IndexOutOfBoundsException IllegalArgumentException"
-            + " UnsupportedOperationException NoSuchElementException",
-        "int time(int,int,int,int,boolean,int) IndexOutOfBoundsException IllegalArgumentException"
-            + " UnsupportedOperationException IllegalStateException",
-        "boolean react(int,int,int,int) IndexOutOfBoundsException IllegalArgumentException"
-            + " UnsupportedOperationException IllegalStateException",
-        "boolean putOut(int,int,int) IndexOutOfBoundsException IllegalArgumentException"
-            + " UnsupportedOperationException IllegalStateException",
-        "boolean isOut(int,int,int) IndexOutOfBoundsException IllegalArgumentException"
-            + " UnsupportedOperationException",
-        "int inFinal(int,int) IndexOutOfBoundsException UnsupportedOperationException NoSuchElementException",
-        "int bar(int,int) IndexOutOfBoundsException IllegalArgumentException"
-            + " UnsupportedOperationException IllegalStateException",
-        "int jump(int,int,char) IndexOutOfBoundsException IllegalArgumentException"
-            + " UnsupportedOperationException IllegalStateException",
-        "int put(int,int,int) IndexOutOfBoundsException IllegalArgumentException"
-            + " UnsupportedOperationException IllegalStateException",
-        "int rankOf(int,int) IndexOutOfBoundsException NoSuchElementException",
-        "int resultOf(int,int) IndexOutOfBoundsException NoSuchElementException",
-        "int protest(int,int,int) IndexOutOfBoundsException IllegalArgumentException"
-            + " UnsupportedOperationException IllegalStateException",
-        "long decide(int,boolean) IndexOutOfBoundsException IllegalStateException",
-        "boolean dope(int,boolean) IndexOutOfBoundsException",
-        "boolean close(int,boolean) IndexOutOfBoundsException",
-        "int record(int) IndexOutOfBoundsException NoSuchElementException",
-        "int holder(int) IndexOutOfBoundsException NoSuchElementException",
-        "int sharers(int) IndexOutOfBoundsException",
-        "int medals(int,int) IllegalArgumentException",
-        "int inTable(int,boolean) IllegalArgumentException",
-        "double points(int) IllegalArgumentException",
-        "int shareBits(int) IllegalArgumentException ArithmeticException",
-        "boolean isTrue()",
-    };
+    private static final Pattern DECLARED = Pattern.compile("public (\\w+) (\\w+)\\((.*)\\)(?: throws (.*))?;");
 
-    public static void main(String[] args) {
+    public static void main(String[] args) throws IOException {
         Check check = new Check("FaceTest");
+        Path root = Path.of(args.length > 0 ? args[0] : ".");
         Class<?> made = HeatStadium.class;
+        Set<String> face = declaredIn(root.resolve("../shared/DOC.md"));
+        check.due("methods that the document declares", face.size(), 31);
+        check.due("methods", publicMethods(made), face);
         check.due("public and final", Modifier.isPublic(made.getModifiers())
                 && Modifier.isFinal(made.getModifiers()), true);
-        check.due("methods", publicMethods(made), new TreeSet<>(Arrays.asList(FACE)));
         check.due("members that are neither the face nor private", othersOpen(made), new TreeSet<String>());
         check.due("private methods with a public name", privateNamedAsPublic(made), new TreeSet<String>());
         check.due("classes", made.getDeclaredClasses().length <= 12, true);
         check.finish();
+    }
+
+    /** The methods of the section "The public face", told as told(method) tells those of the class. */
+    private static Set<String> declaredIn(Path document) throws IOException {
+        Set<String> found = new TreeSet<>();
+        for (String line : Files.readAllLines(document)) {
+            Matcher declared = DECLARED.matcher(line.strip());
+            if (declared.matches()) {
+                String types = declared.group(3).replaceAll(" \\w+(, |$)", "$1").replace(", ", ",");
+                String thrown = declared.group(4) == null ? "" : " " + declared.group(4).replace(",", "");
+                found.add(declared.group(1) + " " + declared.group(2) + "(" + types + ")" + thrown);
+            }
+        }
+        return found;
     }
 
     private static Set<String> publicMethods(Class<?> made) {
